@@ -506,16 +506,12 @@ public final class VerifiedCode {
         }
 
         private boolean readsInstruction(Program p, Method m, int end) {
-            if (!next(p, 0, 255)) {
+            if (at >= p.fileSize || Instruction.length(p.file[at]) == 0) {
                 return false;
             }
-            int code = latest;
-            int length = Instruction.length(code);
-            if (length == 0) {
-                at--;
-                return false;
-            }
-            for (int k = 1; k < length; k++) {
+            int code = p.file[at];
+            at++;
+            for (int k = 1; k < Instruction.length(code); k++) {
                 // The byte behind the code is where an instruction fails that is not whole.
                 if (at >= end || !next(p, 0, highestOperand(p, m, code, k))) {
                     return false;

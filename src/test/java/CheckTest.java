@@ -37,6 +37,7 @@ public final class CheckTest {
         depth();
         beginning();
         framesAndStates();
+        greatFrames();
         typesOfFrames();
         targets();
         ends();
@@ -223,6 +224,13 @@ public final class CheckTest {
             TestKit.frame(0, TestKit.row(1, 2, 1, 1))));
         dueCheck("a frame at 0 with a stack", 0, TestKit.method(parameters, 0, 1, 4, TestKit.row(177),
             TestKit.frame(0, TestKit.row(1, 2, 1, 0), 1)));
+        int[] returnsInt = {21, 0, 172};
+        dueCheck("NOTHING behind no parameter", 0, TestKit.method(NO, 1, 1, 1, returnsInt));
+        dueCheck("NOTHING behind one parameter", 0, TestKit.method(TestKit.row(1), 1, 1, 2, TestKit.row(21, 1, 172)));
+        dueCheck("NOTHING behind two parameters", 0, TestKit.method(TestKit.row(1, 1), 1, 1, 3,
+            TestKit.row(21, 2, 172)));
+        dueCheck("NOTHING behind three parameters", 0, TestKit.method(TestKit.row(1, 1, 1), 1, 1, 4,
+            TestKit.row(21, 3, 172)));
         // A check before must leave nothing behind for the next.
         VerifiedCode x = TestKit.loaded("twice", fileAround(
             TestKit.method(NO, 0, 1, 1, TestKit.row(16, 1, 54, 0, 1, 177))));
@@ -245,6 +253,37 @@ public final class CheckTest {
             TestKit.frame(1, NO, 3, 3)));
         dueCheck("the state is the frame's: NULL became ROW", 1, TestKit.method(NO, 0, 2, 0,
             TestKit.row(1, 167, 0, 3, 177), TestKit.frame(1, NO, 2), TestKit.frame(4, NO, 3)));
+    }
+
+    /** As many of everything as a frame can have, and as many frames as a method can have. */
+    private static void greatFrames() {
+        int[] places = {0, 1, 2, 3, 1, 2};
+        int[] stack = {1, 2, 3, 1, 2, 3};
+        dueCheck("the greatest frame", NONE, TestKit.method(NO, 0, 6, 6,
+            TestKit.row(177, 167, 0, 0), TestKit.frame(1, places, stack)));
+        dueCheck("the greatest frame, its last place", 1, TestKit.method(NO, 0, 6, 6,
+            TestKit.row(177, 167, 0, 3, 177), TestKit.frame(1, places, stack),
+            TestKit.frame(4, TestKit.row(0, 1, 2, 3, 1, 1), stack)));
+        dueCheck("the greatest frame, its last value", 1, TestKit.method(NO, 0, 6, 6,
+            TestKit.row(177, 167, 0, 3, 177), TestKit.frame(1, places, stack),
+            TestKit.frame(4, places, 1, 2, 3, 1, 2, 1)));
+        int[] code = {177, 177, 177, 177, 177, 177, 177, 177, 177, 177};
+        int[][] frames = new int[8][];
+        for (int k = 0; k < 8; k++) {
+            frames[k] = TestKit.frame(k + 1, NO);
+        }
+        dueCheck("eight frames, and none behind them", 9, TestKit.method(NO, 0, 0, 0, code, frames));
+        // The frames of a program before are no frames of this one, though it has fewer.
+        int[] one = TestKit.fileOf(TestKit.method(NO, 0, 0, 0, TestKit.row(177, 177, 177), TestKit.frame(1, NO)));
+        int[] two = TestKit.fileOf(TestKit.method(NO, 0, 0, 0, TestKit.row(177, 177, 177),
+            TestKit.frame(1, NO), TestKit.frame(2, NO)));
+        VerifiedCode x = TestKit.loaded("two frames", two);
+        TestKit.due("two frames: check(0)", x.check(0), NONE);
+        for (int k = 0; k < 3; k++) {
+            TestKit.typeAll(x, one);
+            TestKit.due("one frame: read()", x.read(), NONE);
+            TestKit.due("one frame: check(0)", x.check(0), 2);
+        }
     }
 
     private static void typesOfFrames() {

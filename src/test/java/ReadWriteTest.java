@@ -74,7 +74,17 @@ public final class ReadWriteTest {
         int[] file = richFile();
         for (int n = 0; n < file.length; n++) {
             dueRead("the first " + n + " bytes", n, Arrays.copyOf(file, n));
+            // What was read before must not be taken for the rest.
+            VerifiedCode x = TestKit.loaded("whole, then short", file);
+            TestKit.due("whole once more: read()", x.read(), VerifiedCode.NONE);
+            TestKit.typeAll(x, Arrays.copyOf(file, n));
+            TestKit.due("the first " + n + " bytes after the whole: read()", x.read(), n);
         }
+        int[] code = new int[60];
+        Arrays.fill(code, 177);
+        int[] method = TestKit.method(NO, 0, 0, 0, code);
+        int[] tooLong = TestKit.file(TestKit.constants(), method, method, method, method);
+        dueRead("240 bytes that end in the code", 240, Arrays.copyOf(tooLong, 240));
     }
 
     private static void constants() {
@@ -244,6 +254,15 @@ public final class ReadWriteTest {
         dueRead("a target, then the end", 12, TestKit.bytes(202, 0, 2, bad));
         int[] fine = TestKit.method(NO, 0, 0, 0, RETURN);
         dueRead("the second method's target", 19, TestKit.file(TestKit.constants(), fine, bad));
+        int[] longest = new int[60];
+        Arrays.fill(longest, 177);
+        longest[0] = 167;
+        longest[1] = 0;
+        longest[2] = 59;
+        dueRead("to the last of the longest code", VerifiedCode.NONE,
+            TestKit.fileOf(TestKit.method(NO, 0, 0, 0, longest)));
+        longest[2] = 60;
+        dueRead("behind the longest code", 69, TestKit.fileOf(TestKit.method(NO, 0, 0, 0, longest)));
         // Where instructions begin is the method's own: the first one has one at 1, the second has not.
         int[] two = TestKit.method(NO, 0, 0, 0, TestKit.row(177, 177, 177));
         int[] operand = TestKit.method(NO, 0, 0, 0, TestKit.row(167, 0, 1));

@@ -98,7 +98,12 @@ public final class RunTest {
         dueResult("a last ROW among others", 5, 3, single(mixed, 1, 1, 3, 25, 2, 190, 172), 3, 4, 5);
         dueResult("the last ROW's element", 5, 4, single(mixed, 1, 2, 3, 25, 2, 16, 0, 46, 172), 3, 4, 5);
         due("numbers that no parameter has", DONE, 1, single(NO, 0, 0, 0, 177), 1, 2, 3);
-        due("no argument in a place behind", STUCK, 0, single(TestKit.row(1), 1, 1, 2, 21, 1, 172), 1, 2, 3);
+        int[] parameters = {};
+        for (int k = 0; k <= 3; k++) {
+            due("no argument in the place behind " + k, STUCK, 0,
+                single(parameters, 1, 1, k + 1, 21, k, 172), 1, 2, 3);
+            parameters = TestKit.bytes(parameters, 1);
+        }
     }
 
     private static void constantsAndBytes() {
@@ -241,6 +246,12 @@ public final class RunTest {
         due("188 of the greatest", SIZE, 1, make, MAX);
         dueResult("the last element of a new row is 0", 0, 5,
             single(NO, 1, 2, 0, 16, 8, 188, 16, 7, 46, 172));
+        int[] eighth = {};
+        for (int k = 0; k < 7; k++) {
+            eighth = TestKit.bytes(eighth, 16, 8, 188, 87);
+        }
+        eighth = TestKit.bytes(eighth, 16, 8, 188, 58, 0, 25, 0, 16, 7, 16, 55, 79, 25, 0, 16, 7, 46, 172);
+        dueResult("an eighth row of 8", 55, 7 * 3 + 3 + 4 + 4, single(NO, 1, 3, 1, eighth));
         int[] forever = single(NO, 0, 1, 0, 16, 0, 188, 87, 167, 255, 252);
         due("a ninth row", SIZE, 4 * 8 + 1, forever);
         int[] withOne = single(R, 0, 1, 1, 16, 0, 188, 87, 167, 255, 252);
@@ -540,5 +551,13 @@ public final class RunTest {
         }
         TestKit.due("a new row", x.run(2, 0, 0, 0), DONE);
         TestKit.due("has elements 0", x.result(), 0);
+        for (int k = 0; k < 8; k++) {
+            VerifiedCode y = TestKit.loaded("element " + k, TestKit.file(TestKit.constants(),
+                TestKit.method(NO, 0, 3, 0, TestKit.row(16, 8, 188, 16, k, 16, 66, 79, 177)),
+                TestKit.method(NO, 1, 2, 0, TestKit.row(16, 8, 188, 16, k, 46, 172))));
+            y.run(0, 0, 0, 0);
+            TestKit.due("a new row in a second run", y.run(1, 0, 0, 0), DONE);
+            TestKit.due("its element " + k, y.result(), 0);
+        }
     }
 }

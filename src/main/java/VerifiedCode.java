@@ -221,39 +221,39 @@ public final class VerifiedCode {
             }
         }
 
-        /** A letter for each value that it takes, the lowest first: INT, ROW or Any; a call's are its method's. */
-        static String takes(int code) {
+        /** How many values it takes; a call's are its method's. */
+        static int takes(int code) {
             if (code >= IF_ZERO && code <= IF_NOT_POSITIVE) {
-                return "I";
+                return 1;
             }
             if (code >= IF_EQUAL && code <= IF_NOT_GREATER) {
-                return "II";
+                return 2;
             }
             switch (code) {
-                case STORE_INT: case NEGATE: case RETURN_INT: case NEW_ROW:
-                    return "I";
-                case STORE_ROW: case RETURN_ROW: case COUNT_ELEMENTS: case IF_NULL: case IF_NOT_NULL:
-                    return "R";
-                case ADD: case SUBTRACT: case MULTIPLY: case DIVIDE:
-                    return "II";
-                case LOAD_ELEMENT:
-                    return "RI";
                 case STORE_ELEMENT:
-                    return "RII";
-                case DROP: case DOUBLE:
-                    return "A";
-                case EXCHANGE:
-                    return "AA";
+                    return 3;
+                case LOAD_ELEMENT: case EXCHANGE: case ADD: case SUBTRACT: case MULTIPLY: case DIVIDE:
+                    return 2;
+                case STORE_INT: case STORE_ROW: case DROP: case DOUBLE: case NEGATE: case RETURN_INT:
+                case RETURN_ROW: case NEW_ROW: case COUNT_ELEMENTS: case IF_NULL: case IF_NOT_NULL:
+                    return 1;
                 default:
-                    return "";
+                    return 0;
             }
         }
 
-        static int typeOfLetter(char letter) {
-            if (letter == 'I') {
-                return TYPE_INT;
+        /** The type of the value k that it takes, 0 being the lowest; NOTHING if any will do. */
+        static int typeTaken(int code, int k) {
+            switch (code) {
+                case DROP: case DOUBLE: case EXCHANGE:
+                    return TYPE_NOTHING;
+                case STORE_ROW: case RETURN_ROW: case COUNT_ELEMENTS: case IF_NULL: case IF_NOT_NULL:
+                    return TYPE_ROW;
+                case LOAD_ELEMENT: case STORE_ELEMENT:
+                    return k == 0 ? TYPE_ROW : TYPE_INT;
+                default:
+                    return TYPE_INT;
             }
-            return letter == 'R' ? TYPE_ROW : TYPE_NOTHING;
         }
 
         /** How many values it puts; a call's are its method's. */
@@ -387,14 +387,14 @@ public final class VerifiedCode {
             int code = code(m, offset);
             return code == Instruction.CALL
                 ? called(m, offset).parameterCount
-                : Instruction.takes(code).length();
+                : Instruction.takes(code);
         }
 
         int takenType(Method m, int offset, int k) {
             int code = code(m, offset);
             return code == Instruction.CALL
                 ? parameterType(called(m, offset), k)
-                : Instruction.typeOfLetter(Instruction.takes(code).charAt(k));
+                : Instruction.typeTaken(code, k);
         }
 
         int putCount(Method m, int offset) {

@@ -57,22 +57,10 @@ public final class RandomTest {
         }
     }
 
-    private static void typeFast(VerifiedCode x, int[] file) {
-        for (int k = 0; k < file.length; k += 8) {
-            int n = Math.min(8, file.length - k);
-            long bytes = 0;
-            for (int j = 0; j < n; j++) {
-                bytes = bytes << 8 | file[k + j];
-            }
-            x.type(bytes, n);
-        }
-    }
-
     /** Whether it was read and all its methods were accepted. */
     private static boolean compare(int[] file) {
         String what = Arrays.toString(file);
-        VerifiedCode x = new VerifiedCode();
-        typeFast(x, file);
+        VerifiedCode x = TestKit.typed(file);
         int answer = x.read();
         Model model;
         try {

@@ -45,12 +45,6 @@ public final class ReadWriteTest {
         return TestKit.file(TestKit.constants(-2, 300), first, TestKit.method(NO, 0, 0, 0, RETURN));
     }
 
-    private static int[] with(int[] file, int k, int b) {
-        int[] copy = file.clone();
-        copy[k] = b;
-        return copy;
-    }
-
     private static void everyByteOfAFile() {
         int[] file = richFile();
         dueRead("rich file", VerifiedCode.NONE, file);
@@ -60,13 +54,13 @@ public final class ReadWriteTest {
             {32, 1, 7}, {33, 0, 3}, {36, 0, 2}, {37, 1, 3}, {38, 0, 3}};
         for (int[] r : range) {
             if (r[1] > 0) {
-                dueRead("byte " + r[0] + " too small", r[0], with(file, r[0], r[1] - 1));
+                dueRead("byte " + r[0] + " too small", r[0], TestKit.with(file, r[0], r[1] - 1));
             }
-            dueRead("byte " + r[0] + " too great", r[0], with(file, r[0], r[2] + 1));
-            dueRead("byte " + r[0] + " far too great", r[0], with(file, r[0], 255 - (r[2] == 255 ? 1 : 0)));
+            dueRead("byte " + r[0] + " too great", r[0], TestKit.with(file, r[0], r[2] + 1));
+            dueRead("byte " + r[0] + " far too great", r[0], TestKit.with(file, r[0], 255 - (r[2] == 255 ? 1 : 0)));
         }
         for (int k = 2; k < 10; k++) {
-            dueRead("byte " + k + " of a constant", VerifiedCode.NONE, with(file, k, 255));
+            dueRead("byte " + k + " of a constant", VerifiedCode.NONE, TestKit.with(file, k, 255));
         }
     }
 
@@ -277,10 +271,10 @@ public final class ReadWriteTest {
 
     private static void failureLeavesTheProgram() {
         int[] file = richFile();
-        VerifiedCode x = TestKit.loaded("failure", file);
         int[] others = {0, 1, 10, 11, 17, 25, 38};
         for (int k : others) {
-            TestKit.typeAll(x, with(file, k, 255));
+            VerifiedCode x = TestKit.loaded("failure", file);
+            TestKit.typeAll(x, TestKit.with(file, k, 255));
             TestKit.due("fails at " + k, x.read() == VerifiedCode.NONE ? 1 : 0, 0);
             TestKit.due("methods() after the failure at " + k, x.methods(), 2);
             TestKit.due("write() after the failure at " + k, x.write(), file.length);
@@ -288,7 +282,10 @@ public final class ReadWriteTest {
                 TestKit.due("byteAt(" + j + ") after the failure at " + k, x.byteAt(j), file[j]);
             }
         }
-        TestKit.due("run after failures", x.run(0, 0, 1, 0), VerifiedCode.STUCK);
+        VerifiedCode x = TestKit.loaded("failure", file);
+        TestKit.typeAll(x, TestKit.with(file, 38, 255));
+        TestKit.due("the failure", x.read(), 38);
+        TestKit.due("run after a failure", x.run(0, 0, 1, 0), VerifiedCode.STUCK);
         x.clear();
         TestKit.due("read() of nothing", x.read(), 0);
         TestKit.due("methods() after reading nothing", x.methods(), 2);

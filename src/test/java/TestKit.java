@@ -7,6 +7,9 @@ final class TestKit {
 
     private static int wrong = 0;
     private static int looked = 0;
+    private static int sentences = 0;
+    private static int lookedBeforeSentence = 0;
+    private static String sentence = "";
 
     private TestKit() {
     }
@@ -15,19 +18,46 @@ final class TestKit {
         void make();
     }
 
+    interface CallOn {
+        void make(VerifiedCode x);
+    }
+
+    /** Makes new objects that are all alike. */
+    interface Source {
+        VerifiedCode make();
+    }
+
+    /** What is looked at from here on tests this sentence of the document. */
+    static void sentence(String words) {
+        endSentence();
+        sentence = words;
+        sentences++;
+        lookedBeforeSentence = looked;
+    }
+
+    private static void endSentence() {
+        if (sentences > 0 && looked == lookedBeforeSentence) {
+            wrong++;
+            System.out.println("[" + sentence + "] has no test");
+        }
+    }
+
+    private static void tell(String text) {
+        wrong++;
+        System.out.println((sentences > 0 ? "[" + sentence + "] " : "") + text);
+    }
+
     static void due(String what, long got, long want) {
         looked++;
         if (got != want) {
-            wrong++;
-            System.out.println(what + " answered " + got + ", due is " + want);
+            tell(what + " answered " + got + ", due is " + want);
         }
     }
 
     static void due(String what, String got, String want) {
         looked++;
         if (!got.equals(want)) {
-            wrong++;
-            System.out.println(what + " answered " + got + ", due is " + want);
+            tell(what + " answered " + got + ", due is " + want);
         }
     }
 
@@ -42,8 +72,46 @@ final class TestKit {
         due(what, got, want.getSimpleName());
     }
 
+    /** The call throws, and the object is then as one on which it was not made. */
+    static void dueThrowAlone(String what, Class<?> want, Source source, CallOn call) {
+        VerifiedCode x = source.make();
+        dueThrow(what, want, () -> call.make(x));
+        dueSame(what + ", then", x, source.make());
+    }
+
+    /** Two objects answer alike; the last that is asked of them puts the program's file in place of the typed one. */
+    static void dueSame(String what, VerifiedCode got, VerifiedCode want) {
+        due(what + " size()", got.size(), want.size());
+        dueSameBytes(what, got, want);
+        due(what + " result()", got.result(), want.result());
+        due(what + " steps()", got.steps(), want.steps());
+        due(what + " methods()", got.methods(), want.methods());
+        for (int m = 0; m < Math.min(got.methods(), want.methods()); m++) {
+            due(what + " check(" + m + ")", got.check(m), want.check(m));
+        }
+        if (got.methods() > 0 && want.methods() > 0) {
+            due(what + " write()", got.write(), want.write());
+            dueSameBytes(what + " write()", got, want);
+        }
+    }
+
+    private static void dueSameBytes(String what, VerifiedCode got, VerifiedCode want) {
+        for (int k = 0; k < Math.min(got.size(), want.size()); k++) {
+            due(what + " byteAt(" + k + ")", got.byteAt(k), want.byteAt(k));
+        }
+    }
+
+    static void dueBytes(String what, VerifiedCode got, int[] want) {
+        due(what + " size()", got.size(), want.length);
+        for (int k = 0; k < Math.min(got.size(), want.length); k++) {
+            due(what + " byteAt(" + k + ")", got.byteAt(k), want[k]);
+        }
+    }
+
     static void end(String name) {
-        System.out.println(name + ": " + looked + " answers looked at, " + wrong + " not as due");
+        endSentence();
+        System.out.println(name + ": " + (sentences > 0 ? sentences + " sentences, " : "")
+            + looked + " answers looked at, " + wrong + " not as due");
         if (wrong != 0 || looked == 0) {
             System.exit(1);
         }
@@ -117,11 +185,29 @@ final class TestKit {
         return file(constants(), method);
     }
 
+    /** Eight at a time: an object is good for 512 calls. */
     static void typeAll(VerifiedCode x, int[] file) {
         x.clear();
-        for (int b : file) {
-            x.type(b, 1);
+        for (int from = 0; from < file.length; from += 8) {
+            int n = Math.min(8, file.length - from);
+            long bytes = 0;
+            for (int k = 0; k < n; k++) {
+                bytes = bytes << 8 | file[from + k];
+            }
+            x.type(bytes, n);
         }
+    }
+
+    static VerifiedCode typed(int[] file) {
+        VerifiedCode x = new VerifiedCode();
+        typeAll(x, file);
+        return x;
+    }
+
+    static int[] with(int[] file, int k, int b) {
+        int[] copy = file.clone();
+        copy[k] = b;
+        return copy;
     }
 
     /** A new object in which the file was read, as it must be without a failure. */

@@ -9,22 +9,26 @@ public final class CheckSentencesTest {
     private static final int[] NO = {};
     private static final int[] WITH_TARGET = {153, 154, 155, 156, 157, 158, 159, 160, 161, 162, 163, 164, 167, 198, 199};
 
-    /** An instruction, what it takes (I INT, R ROW, A any), how many it puts, the type that place 0 must have. */
-    private record Line(String name, int[] bytes, String takes, int puts, int place) {
+    /** An instruction, what it takes (I INT, R ROW, A any), what it puts, the type that place 0 must have. */
+    private record Line(String name, int[] bytes, String takes, String types, int place) {
+        int puts() {
+            return types.length();
+        }
     }
 
-    private static Line line(String takes, int puts, int place, int... bytes) {
-        return new Line(Arrays.toString(bytes), bytes, takes, puts, place);
+    /** What it puts: I, R, N for INT, ROW, NULL; x and y for the first and the second that it takes. */
+    private static Line line(String takes, String types, int place, int... bytes) {
+        return new Line(Arrays.toString(bytes), bytes, takes, types, place);
     }
 
     /** All instructions but those with a target and those that return. */
     private static final Line[] TABLE = {
-        line("", 1, 0, 1), line("", 1, 0, 16, 128), line("", 1, 0, 18, 0), line("", 1, INT, 21, 0),
-        line("", 1, ROW, 25, 0), line("I", 0, 0, 54, 0), line("R", 0, 0, 58, 0), line("RI", 1, 0, 46),
-        line("RII", 0, 0, 79), line("A", 0, 0, 87), line("A", 2, 0, 89), line("AA", 2, 0, 95),
-        line("II", 1, 0, 96), line("II", 1, 0, 100), line("II", 1, 0, 104), line("II", 1, 0, 108),
-        line("I", 1, 0, 116), line("", 0, INT, 132, 0, 1), line("", 1, 0, 184, 1), line("IRI", 1, 0, 184, 2),
-        line("R", 0, 0, 184, 3), line("I", 1, 0, 188), line("R", 1, 0, 190),
+        line("", "N", 0, 1), line("", "I", 0, 16, 128), line("", "I", 0, 18, 0), line("", "I", INT, 21, 0),
+        line("", "R", ROW, 25, 0), line("", "N", NULL, 25, 0), line("I", "", 0, 54, 0), line("R", "", 0, 58, 0),
+        line("RI", "I", 0, 46), line("RII", "", 0, 79), line("A", "", 0, 87), line("A", "xx", 0, 89),
+        line("AA", "yx", 0, 95), line("II", "I", 0, 96), line("II", "I", 0, 100), line("II", "I", 0, 104),
+        line("II", "I", 0, 108), line("I", "I", 0, 116), line("", "", INT, 132, 0, 1), line("", "I", 0, 184, 1),
+        line("IRI", "R", 0, 184, 2), line("R", "", 0, 184, 3), line("I", "R", 0, 188), line("R", "I", 0, 190),
     };
 
     private CheckSentencesTest() {
@@ -41,6 +45,8 @@ public final class CheckSentencesTest {
         enoughOnTheStack();
         typesOnTheStack();
         nullWillDo();
+        typesPut();
+        typesOfPlaces();
         placeAsSaid();
         methodAsSaid();
         depthFullAndPassed();
@@ -109,7 +115,24 @@ public final class CheckSentencesTest {
                 dueCheck(what + ", 87", 0, TestKit.method(list, 0, 1, places, TestKit.row(87, 177)));
                 dueCheck(what + ", a frame with a value", 0,
                     TestKit.method(list, 0, 1, places, TestKit.row(177), TestKit.frame(0, first, INT)));
+                if (places > list.length) {
+                    // What stands in the file behind the types of the parameters is the type that is returned.
+                    dueCheck(what + ", returns INT", 0,
+                        TestKit.method(list, INT, 1, places, TestKit.row(21, list.length, 172)));
+                    dueCheck(what + ", returns ROW", 0,
+                        TestKit.method(list, ROW, 1, places, TestKit.row(25, list.length, 176)));
+                }
             }
+        }
+        // Whatever was checked before.
+        VerifiedCode x = TestKit.loaded("one check behind another", TestKit.file(TestKit.constants(),
+            TestKit.method(NO, 1, 2, 1, TestKit.row(16, 1, 54, 0, 1, 16, 1, 172)),
+            TestKit.method(NO, 0, 2, 1, TestKit.row(21, 0, 177)), TestKit.method(NO, 0, 2, 1, TestKit.row(87, 177))));
+        for (int k = 0; k < 3; k++) {
+            TestKit.due("one that fills places and stack", x.check(0), NONE);
+            TestKit.due("one that looks at places", x.check(1), 0);
+            TestKit.due("one that fills places and stack, again", x.check(0), NONE);
+            TestKit.due("one that looks at the stack", x.check(2), 0);
         }
     }
 
@@ -211,6 +234,15 @@ public final class CheckSentencesTest {
             TestKit.row(1, 58, 0, 167, 0, 3, 177), TestKit.frame(6, TestKit.row(NULL))));
         dueCheck("behind no state too", NONE, TestKit.method(NO, 1, 1, 1, TestKit.row(16, 1, 172, 21, 0, 172),
             TestKit.frame(3, TestKit.row(INT))));
+        // The frames of a program before, of which there were more, are no frames of this one.
+        VerifiedCode x = TestKit.loaded("two frames", TestKit.fileOf(TestKit.method(NO, 0, 0, 0,
+            TestKit.row(177, 177, 177), TestKit.frame(1, NO), TestKit.frame(2, NO))));
+        for (int k = 0; k < 3; k++) {
+            TestKit.typeAll(x, TestKit.fileOf(TestKit.method(NO, 0, 0, 0, TestKit.row(177, 177, 177),
+                TestKit.frame(1, NO))));
+            TestKit.due("one frame behind two: read()", x.read(), NONE);
+            TestKit.due("one frame behind two: check(0)", x.check(0), 2);
+        }
         dueCheck("behind no state its stack too", NONE, TestKit.method(NO, 1, 1, 0, TestKit.row(16, 1, 172, 172),
             TestKit.frame(3, NO, INT)));
     }
@@ -302,6 +334,77 @@ public final class CheckSentencesTest {
         dueCheck("25", NONE, TestKit.method(NO, 0, 1, 1, TestKit.row(1, 58, 0, 25, 0, 177)));
         dueCheck("not for an INT", 1, TestKit.method(NO, 0, 1, 1, TestKit.row(1, 54, 0, 177)));
         dueCheck("not for an INT that is returned", 1, TestKit.method(NO, 1, 1, 0, TestKit.row(1, 172)));
+    }
+
+    private static int typePut(char letter, int[] taken) {
+        switch (letter) {
+            case 'I': return INT;
+            case 'R': return ROW;
+            case 'N': return NULL;
+            case 'x': return taken[0];
+            default: return taken[1];
+        }
+    }
+
+    private static void typesPut() {
+        TestKit.sentence("[A -> B]: it takes A from the stack (the last one being the highest) and puts B.");
+        int[] types = {INT, ROW, NULL};
+        for (Line line : TABLE) {
+            for (int below = 0; below <= 3; below++) {
+                if (!line.takes().contains("A")) {
+                    dueTypesBehind(line, below, stackFor(0, line.takes()));
+                    continue;
+                }
+                for (int a : types) {
+                    for (int b : types) {
+                        dueTypesBehind(line, below, Arrays.copyOf(TestKit.row(a, b), line.takes().length()));
+                    }
+                }
+            }
+        }
+    }
+
+    /** What is below stays as it is, what it puts lies on it: a frame behind it is good with these types alone. */
+    private static void dueTypesBehind(Line line, int below, int[] taken) {
+        int[] low = Arrays.copyOf(TestKit.row(ROW, INT, NULL), below);
+        int[] behind = low;
+        for (char letter : line.types().toCharArray()) {
+            behind = TestKit.bytes(behind, typePut(letter, taken));
+        }
+        String what = line.name() + " of " + Arrays.toString(taken) + " on " + below;
+        int at = 1 + line.bytes().length;
+        int[] code = TestKit.bytes(177, line.bytes(), 177);
+        int[] before = TestKit.frame(1, TestKit.row(line.place()), TestKit.bytes(low, taken));
+        for (int k = 0; k < behind.length; k++) {
+            for (int declared = 1; declared <= 3; declared++) {
+                dueCheck(what + ", value " + k + " as " + declared, isGood(behind[k], declared) ? NONE : at,
+                    TestKit.method(NO, 0, 6, 1, code, before,
+                        TestKit.frame(at, TestKit.row(0), TestKit.with(behind, k, declared))));
+            }
+        }
+        for (int height = 0; height <= 6; height++) {
+            dueCheck(what + ", " + height + " behind it", height == behind.length ? NONE : at,
+                TestKit.method(NO, 0, 6, 1, code, before, TestKit.frame(at, TestKit.row(0),
+                    TestKit.bytes(Arrays.copyOf(behind, Math.min(height, behind.length)),
+                        filled(Math.max(0, height - behind.length), INT)))));
+        }
+    }
+
+    private static void typesOfPlaces() {
+        TestKit.sentence("54 p [INT -> ], 58 p [ROW -> ]: the place has it then.");
+        int[] codes = {54, 58, 58};
+        int[] types = {INT, ROW, NULL};
+        for (int k = 0; k < codes.length; k++) {
+            for (int p = 0; p < 6; p++) {
+                for (int declared = 0; declared <= 3; declared++) {
+                    int[] places = TestKit.row(0, 1, 2, 3, 1, 2);
+                    dueCheck(codes[k] + " of " + types[k] + " to place " + p + " as " + declared,
+                        isGood(types[k], declared) ? NONE : 3,
+                        TestKit.method(NO, 0, 1, 6, TestKit.row(177, codes[k], p, 177),
+                            TestKit.frame(1, places, types[k]), TestKit.frame(3, TestKit.with(places, p, declared))));
+                }
+            }
+        }
     }
 
     private static void placeAsSaid() {

@@ -35,6 +35,7 @@ public final class ReadSentencesTest {
         typesInFrames();
         heightsOfFrames();
         targets();
+        everyT();
         firstOneThatFails();
         fileEndsTooEarly();
         codeNotWhole();
@@ -377,16 +378,29 @@ public final class ReadSentencesTest {
                 dueRead(code + " to " + target, isIn(begins, target) ? NONE : behind, around(code, target - 6));
             }
         }
-        // Every t that there is.
-        for (int t = 0; t <= 65535; t++) {
-            int target = 6 + (t >= 32768 ? t - 65536 : t);
-            dueRead("167 by " + t, isIn(begins, target) ? NONE : behind, around(167, t));
+        for (int length = 3; length <= 60; length++) {
+            int[] jumps = TestKit.fileOf(TestKit.method(NO, 0, 0, 0, TestKit.bytes(167, 0, 0, filled(length - 3, 177))));
+            for (int target = 0; target <= 64; target++) {
+                boolean good = target == 0 || target >= 3 && target < length;
+                dueRead("to " + target + " in " + length, good ? NONE : jumps.length, TestKit.with(jumps, 10, target));
+            }
         }
         int[] code = {177, 16, 177, 132, 0, 177, 167, 0, 0, 184, 0, 177};
         int[] starts = {0, 1, 3, 6, 9, 11};
         for (int offset = 0; offset < code.length; offset++) {
             int[] file = TestKit.fileOf(TestKit.method(NO, 0, 0, 1, code, TestKit.frame(offset, TestKit.row(3))));
             dueRead("a frame at " + offset, isIn(starts, offset) ? NONE : file.length, file);
+        }
+    }
+
+    private static void everyT() {
+        TestKit.sentence("t two bytes, the higher first (32768 and more stand for 65536 less): "
+            + "the target is the instruction's offset plus that.");
+        int[] begins = {0, 1, 3, 6, 9, 12, 14};
+        int behind = around(167, 0).length;
+        for (int t = 0; t <= 65535; t++) {
+            int target = 6 + (t >= 32768 ? t - 65536 : t);
+            dueRead("167 by " + t, isIn(begins, target) ? NONE : behind, around(167, t));
         }
     }
 

@@ -54,9 +54,13 @@ public final class RunSentencesTest {
         behindItsEnd();
         divisionByZero();
         intsThatWrap();
+        comparisons();
+        nullComparisons();
+        stackInstructions();
         indexes();
         nulls();
         sizes();
+        elementsOfNewRows();
         ninthRow();
         fiveMethods();
         twoHundred();
@@ -338,6 +342,8 @@ public final class RunSentencesTest {
         dueResult("MIN / -1", MIN, two(108), MIN, -1);
         dueResult("MAX / -1", -MAX, two(108), MAX, -1);
         dueResult("MIN / MAX", -1, two(108), MIN, MAX);
+        dueResult("MIN / 1", MIN, two(108), MIN, 1);
+        dueResult("0 / 1", 0, two(108), 0, 1);
         dueResult("7 / 2", 3, two(108), 7, 2);
         dueResult("-7 / 2", -3, two(108), -7, 2);
         dueResult("7 / -2", -3, two(108), 7, -2);
@@ -352,10 +358,60 @@ public final class RunSentencesTest {
             dueResult("MAX grows by " + c, MAX + (byte) c, grows, MAX);
             dueResult("MIN grows by " + c, MIN + (byte) c, grows, MIN);
         }
-        dueResult("compared as ints, MIN < 1", 1, single(TestKit.row(1, 1), 1, 2, 2,
-            21, 0, 21, 1, 161, 0, 6, 16, 0, 172, 16, 1, 172), MIN, 1);
-        dueResult("compared as ints, MAX > MIN", 1, single(TestKit.row(1, 1), 1, 2, 2,
-            21, 0, 21, 1, 163, 0, 6, 16, 0, 172, 16, 1, 172), MAX, MIN);
+    }
+
+    private static boolean holds(int which, long a, long b) {
+        boolean[] answers = {a == b, a != b, a < b, a >= b, a > b, a <= b};
+        return answers[which];
+    }
+
+    private static void comparisons() {
+        int[] some = {MIN, MIN + 1, -2, -1, 0, 1, 2, MAX - 1, MAX};
+        TestKit.sentence("to the target if it is = 0, not 0, < 0, >= 0, > 0, <= 0, in this order.");
+        for (int which = 0; which < 6; which++) {
+            int[] one = single(TestKit.row(1), 1, 1, 1, 21, 0, 153 + which, 0, 6, 16, 0, 172, 16, 1, 172);
+            for (int a : some) {
+                dueResult((153 + which) + " of " + a, holds(which, a, 0) ? 1 : 0, one, a);
+            }
+        }
+        TestKit.sentence("159 t to 164 t [INT INT -> ] likewise for the two, compared as ints.");
+        for (int which = 0; which < 6; which++) {
+            int[] two = single(TestKit.row(1, 1), 1, 2, 2, 21, 0, 21, 1, 159 + which, 0, 6, 16, 0, 172, 16, 1, 172);
+            for (int a : some) {
+                for (int b : some) {
+                    dueResult((159 + which) + " of " + a + ", " + b, holds(which, a, b) ? 1 : 0, two, a, b);
+                }
+            }
+        }
+    }
+
+    private static void nullComparisons() {
+        TestKit.sentence("198 t, 199 t [ROW -> ]: to the target if it is null, is not.");
+        int[] numbers = {MIN, -1, 0, 1, 7, 8};
+        for (int number : numbers) {
+            dueResult("198 of " + number, number < 0 ? 1 : 0,
+                single(TestKit.row(2), 1, 1, 1, 25, 0, 198, 0, 6, 16, 0, 172, 16, 1, 172), number);
+            dueResult("199 of " + number, number < 0 ? 0 : 1,
+                single(TestKit.row(2), 1, 1, 1, 25, 0, 199, 0, 6, 16, 0, 172, 16, 1, 172), number);
+        }
+        dueResult("198 of 1's null", 1, single(NO, 1, 1, 0, 1, 198, 0, 6, 16, 0, 172, 16, 1, 172));
+        dueResult("199 of 1's null", 0, single(NO, 1, 1, 0, 1, 199, 0, 6, 16, 0, 172, 16, 1, 172));
+    }
+
+    private static void stackInstructions() {
+        TestKit.sentence("87 [any -> ]. 89 [any -> it, it]. 95 [any any -> them exchanged].");
+        dueResult("87 leaves what is below", 3, single(NO, 1, 2, 0, 16, 3, 16, 4, 87, 172));
+        dueResult("89, the one", 3, single(NO, 1, 2, 0, 16, 3, 89, 172));
+        dueResult("89, the other", 3, single(NO, 1, 2, 0, 16, 3, 89, 87, 172));
+        dueResult("89 of null, the other", NONE, single(NO, 2, 2, 0, 1, 89, 87, 176));
+        dueResult("89 of a row, the other", 5, single(TestKit.row(2), 2, 2, 1, 25, 0, 89, 87, 176), 5);
+        dueResult("95, the higher", 3, single(NO, 1, 2, 0, 16, 3, 16, 4, 95, 172));
+        dueResult("95, the lower", 4, single(NO, 1, 2, 0, 16, 3, 16, 4, 95, 87, 172));
+        dueResult("95 of a row and an INT, the higher", 5, single(TestKit.row(2), 2, 2, 1, 25, 0, 16, 4, 95, 176), 5);
+        dueResult("95 of a row and an INT, the lower", 4,
+            single(TestKit.row(2), 1, 2, 1, 25, 0, 16, 4, 95, 87, 172), 5);
+        dueResult("95 of null and an INT, the higher", NONE, single(NO, 2, 2, 0, 1, 16, 4, 95, 176));
+        dueResult("95 leaves what is below", 2, single(NO, 1, 3, 0, 16, 2, 16, 3, 16, 4, 95, 87, 87, 172));
     }
 
     private static void indexes() {
@@ -418,6 +474,22 @@ public final class RunSentencesTest {
         // 190 tells the same, also in an eighth row of 8 elements.
         dueResult("190 of 0", 0, single(NO, 1, 1, 0, 16, 0, 188, 190, 172));
         dueResult("190 of 8", 8, single(NO, 1, 1, 0, 16, 8, 188, 190, 172));
+    }
+
+    private static void elementsOfNewRows() {
+        TestKit.sentence("188 [INT -> ROW] a new row of so many elements 0.");
+        int[] fills = TestKit.method(TestKit.row(1), 0, 3, 1, TestKit.row(16, 8, 188, 21, 0, 16, 66, 79, 177));
+        int[] looks = TestKit.method(TestKit.row(1), 1, 2, 1, TestKit.row(16, 8, 188, 21, 0, 46, 172));
+        int[] argument = TestKit.method(TestKit.row(2), 0, 0, 1, RETURN);
+        for (int k = 0; k < 8; k++) {
+            VerifiedCode x = TestKit.loaded("element " + k, TestKit.file(TestKit.constants(), fills, looks, argument));
+            TestKit.due("a row that is changed", x.run(0, k, 0, 0), DONE);
+            TestKit.due("a new one in the next run", x.run(1, k, 0, 0), DONE);
+            TestKit.due("its element " + k, x.result(), 0);
+            TestKit.due("an argument", x.run(2, 7, 0, 0), DONE);
+            TestKit.due("a new one behind it", x.run(1, k, 0, 0), DONE);
+            TestKit.due("its element " + k + " then", x.result(), 0);
+        }
     }
 
     /** Makes new rows of 8 elements, so many as place 0 tells, then one more whose last element it returns. */
@@ -639,6 +711,18 @@ public final class RunSentencesTest {
             }
         }
         due("numbers without parameters", DONE, 1, single(NO, 0, 0, 0, 177), MIN, MAX, -1);
+        // The types are those of the method that is run, whichever ran before.
+        VerifiedCode x = TestKit.loaded("two methods", TestKit.file(TestKit.constants(),
+            TestKit.method(TestKit.row(1), 1, 2, 1, TestKit.row(21, 0, 1, 184, 1, 87, 172)),
+            TestKit.method(TestKit.row(2), 2, 1, 1, TestKit.row(25, 0, 176))));
+        for (int k = 0; k < 3; k++) {
+            TestKit.due("the one with an INT", x.run(0, 13, 0, 0), DONE);
+            TestKit.due("its result()", x.result(), 13);
+            TestKit.due("the one with a ROW", x.run(1, 13, 0, 0), DONE);
+            TestKit.due("its result()", x.result(), 5);
+            TestKit.due("the one with a ROW again", x.run(1, -13, 0, 0), DONE);
+            TestKit.due("its result() again", x.result(), NONE);
+        }
     }
 
     private static void dueArgument(int[] list, int p, int[] given, int number) {

@@ -96,14 +96,16 @@ final class TestKit {
     }
 
     private static void dueSameBytes(String what, VerifiedCode got, VerifiedCode want) {
-        for (int k = 0; k < Math.min(got.size(), want.size()); k++) {
+        int count = Math.min(got.size(), want.size());
+        for (int k = 0; k < count; k++) {
             due(what + " byteAt(" + k + ")", got.byteAt(k), want.byteAt(k));
         }
     }
 
     static void dueBytes(String what, VerifiedCode got, int[] want) {
-        due(what + " size()", got.size(), want.length);
-        for (int k = 0; k < Math.min(got.size(), want.length); k++) {
+        int count = got.size();
+        due(what + " size()", count, want.length);
+        for (int k = 0; k < Math.min(count, want.length); k++) {
             due(what + " byteAt(" + k + ")", got.byteAt(k), want[k]);
         }
     }

@@ -41,8 +41,28 @@ public final class FaceTest {
         for (Class<?> inside : face.getDeclaredClasses()) {
             TestKit.due(inside.getSimpleName() + " is static and not public",
                 inside.getModifiers() & (Modifier.STATIC | Modifier.PUBLIC | Modifier.PROTECTED), Modifier.STATIC);
+            noneNamedAsPublic(inside, face);
         }
+        noneNamedAsPublic(face, face);
         TestKit.end("FaceTest");
+    }
+
+    /** LANGUAGE.md, rule 1: no private method bears the name of a public one; here none of the classes inside does. */
+    private static void noneNamedAsPublic(Class<?> holder, Class<?> face) {
+        Set<String> publicNames = new TreeSet<>();
+        for (Method m : face.getMethods()) {
+            if (m.getDeclaringClass() == face) {
+                publicNames.add(m.getName());
+            }
+        }
+        Set<String> others = new TreeSet<>();
+        for (Method m : holder.getDeclaredMethods()) {
+            if (!Modifier.isPublic(m.getModifiers())) {
+                others.add(m.getName());
+            }
+        }
+        others.retainAll(publicNames);
+        TestKit.due("names of public methods that " + holder.getSimpleName() + " uses", others.toString(), "[]");
     }
 
     private static Set<String> seenMethods(Class<?> face) {
